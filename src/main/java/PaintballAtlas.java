@@ -25,6 +25,7 @@ public final class PaintballAtlas {
     private final Table table = new Table();
     private final int[] refereeCells = {0, CELLS - 1};
 
+    /** An empty field, and a table of teams without rounds. */
     public PaintballAtlas() {
     }
 
@@ -460,11 +461,11 @@ public final class PaintballAtlas {
 
     /** The shots of a round, in the order in which they were shot. */
     private static final class Shots {
-        private int count;
-        private final int[] shooters = new int[MOST_SHOTS];
-        private final int[] origins = new int[MOST_SHOTS];
-        private final int[] targets = new int[MOST_SHOTS];
-        private final int[] arrivals = new int[MOST_SHOTS];
+        int count;
+        final int[] shooters = new int[MOST_SHOTS];
+        final int[] origins = new int[MOST_SHOTS];
+        final int[] targets = new int[MOST_SHOTS];
+        final int[] arrivals = new int[MOST_SHOTS];
 
         void add(int shooter, int origin, int target, int arrival) {
             shooters[count] = shooter;
@@ -477,11 +478,11 @@ public final class PaintballAtlas {
 
     /** The calls of the referees in a round, by their numbers. */
     private static final class Calls {
-        private int count;
-        private final int[] players = new int[MOST_CALLS];
-        private final int[] cells = new int[MOST_CALLS];
-        private final int[] ticks = new int[MOST_CALLS];
-        private final boolean[] disputed = new boolean[MOST_CALLS];
+        int count;
+        final int[] players = new int[MOST_CALLS];
+        final int[] cells = new int[MOST_CALLS];
+        final int[] ticks = new int[MOST_CALLS];
+        final boolean[] disputed = new boolean[MOST_CALLS];
 
         int add(int player, int cell, int tick) {
             players[count] = player;

@@ -147,6 +147,9 @@ public final class RoundTest {
         Due.is("not placed still", atlas.where(4), -1);
         atlas.move(1, 12);
         Due.notNow("over the edge to the row before", () -> atlas.move(1, 11));
+        atlas.move(2, 0);
+        Due.notNow("no neighbour of the cell 0", () -> atlas.move(2, 2));
+        Due.notNow("no neighbour of the cell 0, two rows on", () -> atlas.move(2, 24));
         atlas.call(0, 0);
         Due.notNow("out", () -> atlas.move(0, 17));
         Due.is("out still", atlas.where(0), -2);

@@ -5,6 +5,7 @@ public final class TableTest {
     public static void main(String[] args) {
         pointsAndDifference();
         finesAreTakenAtTheEnd();
+        finesOfEveryTeam();
         finesOfATeamThatDidNotPlay();
         placeByPoints();
         placeByRoundsWon();
@@ -59,6 +60,18 @@ public final class TableTest {
         atlas.begin(5, 0);
         fine(atlas, 0);
         Due.is("fine of a home team", atlas.fines(5), 1);
+    }
+
+    private static void finesOfEveryTeam() {
+        for (int team = 0; team < 6; team++) {
+            PaintballAtlas atlas = new PaintballAtlas();
+            fineAway(atlas, (team + 1) % 6, team, 2);
+            for (int other = 0; other < 6; other++) {
+                int due = other == team ? -1 : other == (team + 1) % 6 ? 3 : 0;
+                Due.is("fined " + team + ": points of " + other, atlas.points(other), due);
+                Due.is("fined " + team + ": fines of " + other, atlas.fines(other), 0);
+            }
+        }
     }
 
     private static void finesOfATeamThatDidNotPlay() {
