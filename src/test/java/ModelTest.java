@@ -45,13 +45,8 @@ public final class ModelTest {
             int face = call < bunkers ? 2 : pickFace();
             int first = argument(face, 0);
             int second = argument(face, 1);
-            String what = "run " + run + ", call " + call + ": promise " + face + " of " + first + ", " + second;
-            long[] got = new long[1];
-            long[] due = new long[1];
-            Class<?> thrown = Due.thrownBy(() -> got[0] = ask(atlas, face, first, second));
-            Class<?> dueThrown = Due.thrownBy(() -> due[0] = model.answer(face, first, second));
-            Due.is(what + " threw " + thrown + ", due is " + dueThrown, thrown == dueThrown, true);
-            Due.is(what, got[0], due[0]);
+            Asked asked = new Asked(face, first, second);
+            Due.same("run " + run + ", call " + call + ": " + asked.written(), asked.answer(atlas), asked.answer(model));
         }
     }
 
@@ -73,30 +68,6 @@ public final class ModelTest {
 
     private static int near() {
         return below(6) == 0 ? below(144) : 26 + 12 * below(4) + below(4);
-    }
-
-    private static long ask(PaintballAtlas atlas, int face, int first, int second) {
-        switch (face) {
-            case 2: return atlas.toggleBunker(first) ? 1 : 0;
-            case 3: return atlas.sees(first, second) ? 1 : 0;
-            case 4: return atlas.view(first);
-            case 5: return atlas.setReferee(first, second);
-            case 6: atlas.begin(first, second); return 0;
-            case 7: return atlas.move(first, second);
-            case 8: return atlas.shoot(first, second);
-            case 9: return atlas.pass(first);
-            case 10: return atlas.call(first, second);
-            case 11: return atlas.dispute(first) ? 1 : 0;
-            case 12: return atlas.end();
-            case 13: return atlas.tick();
-            case 14: return atlas.where(first);
-            case 15: return atlas.hit(first);
-            case 16: return atlas.flying();
-            case 17: return atlas.points(first);
-            case 18: return atlas.fines(first);
-            case 19: return atlas.difference(first);
-            default: return atlas.place(first);
-        }
     }
 
     // Behind 512 calls the answers are free, but the machine itself must throw nothing even then.

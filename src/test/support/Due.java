@@ -22,6 +22,14 @@ final class Due {
         is(what, got ? 1 : 0, want ? 1 : 0);
     }
 
+    static void same(String what, String got, String want) {
+        looked++;
+        if (!got.equals(want)) {
+            wrong++;
+            System.out.println(what + " answered " + got + ", due is " + want);
+        }
+    }
+
     static void noIndex(String what, Call call) {
         refuses(what, IndexOutOfBoundsException.class, call);
     }
